@@ -1,0 +1,70 @@
+import java.lang.reflect.Constructor;
+import java.lang.reflect.Field;
+import java.lang.reflect.Method;
+import java.lang.reflect.Modifier;
+import java.util.TreeSet;
+
+/** The public face: the names, parameters, answers and throws clauses of the document, and no other member in sight. */
+public final class FaceTest {
+    private static final String A = " IllegalArgumentException";
+    private static final String S = " IllegalStateException";
+
+    public static void main(String[] args) {
+        Checks checks = new Checks("FaceTest");
+        checks.due("modifiers", Modifier.PUBLIC | Modifier.FINAL, MarkdownPlanner.class.getModifiers());
+        checks.due("package", "", MarkdownPlanner.class.getPackageName());
+
+        TreeSet<String> want = new TreeSet<>();
+        want.add("public ()");
+        want.add("int begin(int)" + A);
+        want.add("int setPrice(int int)" + A + S);
+        want.add("int setDemand(int int int)" + A);
+        want.add("void setRules(int int int)" + A);
+        want.add("int put(int int int)" + A + S);
+        want.add("int markDown(int int)" + A + S);
+        want.add("int move(int int int int)" + A + S);
+        want.add("int run()" + S);
+        want.add("int week()");
+        want.add("int stock(int int)" + A);
+        want.add("int step(int)" + A);
+        want.add("int weeksToWait(int)" + A);
+        want.add("int sold(int)" + A);
+        want.add("int taken()");
+        want.add("int wouldSell(int int)" + A);
+        want.add("int best(int)" + A);
+        want.add("int bestByAll(int)" + A + S);
+        want.add("int planned(int int)" + A);
+        want.add("int bestLeaving(int int)" + A);
+        checks.due("face", want.toString(), faceOf(MarkdownPlanner.class).toString());
+        checks.end();
+    }
+
+    private static TreeSet<String> faceOf(Class<?> type) {
+        TreeSet<String> face = new TreeSet<>();
+        for (Constructor<?> made : type.getDeclaredConstructors()) {
+            face.add(Modifier.toString(made.getModifiers()) + " " + list(made.getParameterTypes(), "(", ")")
+                    + list(made.getExceptionTypes(), "", ""));
+        }
+        for (Method method : type.getDeclaredMethods()) {
+            if (!Modifier.isPrivate(method.getModifiers())) {
+                String clause = list(method.getExceptionTypes(), "", "");
+                face.add(method.getReturnType().getSimpleName() + " " + method.getName()
+                        + list(method.getParameterTypes(), "(", ")") + (clause.isEmpty() ? "" : " " + clause));
+            }
+        }
+        for (Field field : type.getDeclaredFields()) {
+            if (!Modifier.isPrivate(field.getModifiers())) {
+                face.add("field " + field.getName());
+            }
+        }
+        return face;
+    }
+
+    private static String list(Class<?>[] types, String open, String close) {
+        StringBuilder text = new StringBuilder(open);
+        for (int i = 0; i < types.length; i++) {
+            text.append(i == 0 ? "" : " ").append(types[i].getSimpleName());
+        }
+        return text.append(close).toString();
+    }
+}
