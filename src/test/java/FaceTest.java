@@ -2,6 +2,8 @@ import java.lang.reflect.Constructor;
 import java.lang.reflect.Field;
 import java.lang.reflect.Method;
 import java.lang.reflect.Modifier;
+import java.util.ArrayList;
+import java.util.List;
 import java.util.TreeSet;
 
 /** The public face: the names, parameters, answers and throws clauses of the document, and no other member in sight. */
@@ -36,7 +38,39 @@ public final class FaceTest {
         want.add("int planned(int int)" + A);
         want.add("int bestLeaving(int int)" + A);
         checks.due("face", want.toString(), faceOf(MarkdownPlanner.class).toString());
+        checks.due("rules 1 and 5 of LANGUAGE.md", "[]", outsideTheLanguage().toString());
         checks.end();
+    }
+
+    /** Private methods with a public one's name, classes inside that are not static, and static state. */
+    private static TreeSet<String> outsideTheLanguage() {
+        TreeSet<String> publicNames = new TreeSet<>();
+        TreeSet<String> found = new TreeSet<>();
+        for (Method method : MarkdownPlanner.class.getDeclaredMethods()) {
+            if (Modifier.isPublic(method.getModifiers())) {
+                publicNames.add(method.getName());
+            }
+        }
+        ArrayList<Class<?>> types = new ArrayList<>(List.of(MarkdownPlanner.class.getDeclaredClasses()));
+        for (Class<?> inside : types) {
+            if (!Modifier.isStatic(inside.getModifiers()) || Modifier.isPublic(inside.getModifiers())) {
+                found.add("class " + inside.getSimpleName());
+            }
+        }
+        types.add(MarkdownPlanner.class);
+        for (Class<?> type : types) {
+            for (Method method : type.getDeclaredMethods()) {
+                if (!Modifier.isPublic(method.getModifiers()) && publicNames.contains(method.getName())) {
+                    found.add("method " + method.getName() + " of " + type.getSimpleName());
+                }
+            }
+            for (Field field : type.getDeclaredFields()) {
+                if (Modifier.isStatic(field.getModifiers()) && !Modifier.isFinal(field.getModifiers())) {
+                    found.add("field " + field.getName() + " of " + type.getSimpleName());
+                }
+            }
+        }
+        return found;
     }
 
     private static TreeSet<String> faceOf(Class<?> type) {

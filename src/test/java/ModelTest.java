@@ -59,17 +59,39 @@ public final class ModelTest {
         }
         // Small demands and prices make many plans of the same worth, so some runs keep to them.
         int[] most = {below(2) == 0 ? 30 : 1 + below(6), below(2) == 0 ? 1000 : 1 + below(8), 1 + below(40)};
-        for (int call = 0; call < CALLS; call++) {
+        int madeAhead = below(4) == 0 ? 0 : ladderMadeAhead(run, x, model);
+        for (int call = madeAhead; call < CALLS; call++) {
             int at = 0;
             for (int luck = below(often); luck >= OFTEN[at]; at++) {
                 luck -= OFTEN[at];
             }
-            oneCall(run, call, at, x, model, most);
+            oneCall(run, call, at, x, model, argumentsOf(NAMES[at], model, most));
         }
     }
 
-    private static void oneCall(int run, int call, int at, MarkdownPlanner x, Model model, int[] most) {
-        int[] a = argumentsOf(NAMES[at], model, most);
+    /** Sets up prices that go down and demands that go up, so that plans have many steps; returns how many calls. */
+    private static int ladderMadeAhead(int run, MarkdownPlanner x, Model model) {
+        int call = 0;
+        for (int step = 4; step > 0; step--) {
+            int least = step == 4 ? 0 : model.prices[step + 1];
+            oneCall(run, call++, 1, x, model, new int[] {step, least + below(101 - least), 0, 0});
+        }
+        for (int store = 0; store < 3; store++) {
+            int demand = 0;
+            for (int step = 0; step < 5; step++) {
+                demand = Math.min(30, demand + below(store == 0 ? 3 : 8));
+                oneCall(run, call++, 2, x, model, new int[] {store, step, demand, 0});
+            }
+            oneCall(run, call++, 4, x, model, new int[] {store, below(3), 1 + below(40), 0});
+            oneCall(run, call++, 4, x, model, new int[] {store, below(3), 1 + below(20), 0});
+        }
+        for (int week = 0; week < 8; week++) {
+            oneCall(run, call++, 17, x, model, new int[] {below(3), week, 0, 0});
+        }
+        return call;
+    }
+
+    private static void oneCall(int run, int call, int at, MarkdownPlanner x, Model model, int[] a) {
         String want = model.answer(NAMES[at], a);
         String got = answerOf(x, NAMES[at], a);
         if (want.startsWith("throws.")) {

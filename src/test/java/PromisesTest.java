@@ -495,6 +495,11 @@ public final class PromisesTest {
             CHECKS.argument("17: store " + wrong, () -> x.best(wrong));
         }
         due("17: no stock", 0, x.best(0));
+        x.put(1, 0, 40);
+        x.put(1, 1, 20);
+        x.setRules(2, 3, 0);
+        due("17: all 60 are left", 180, x.best(1));
+        x.setRules(2, 0, 0);
         x.begin(2);
         demands(x, 0, 1, 2, 4, 7, 30);
         x.put(0, 0, 10);
@@ -565,9 +570,32 @@ public final class PromisesTest {
         due("18: 7 at 40 twice, 46 at 5", 790, x.bestByAll(0));
         x.markDown(0, 4);
         due("18: nothing sells at its own step", 300, x.bestByAll(0));
+        promise18KeepsTheGap();
         runWeeks(x, 2);
         x.setRules(2, 9, 0);
         due("18: over, 60 at 9", 540, x.bestByAll(0));
+    }
+
+    private static void promise18KeepsTheGap() {
+        MarkdownPlanner x = new MarkdownPlanner();
+        x.setPrice(4, 5);
+        x.begin(4);
+        demands(x, 0, 0, 1, 0, 0, 30);
+        x.put(0, 0, 30);
+        int[] byGap = {435, 435, 435, 400};
+        for (int gap = 1; gap <= 4; gap++) {
+            x.setRules(gap, 0, 0);
+            due("18: 1 at 100, then 30 at 5, gap " + gap, byGap[gap - 1], x.bestByAll(0));
+        }
+        x.markDown(0, 1);
+        for (int gap = 1; gap <= 4; gap++) {
+            x.setRules(gap, 0, 0);
+            due("18: the same when marked down, gap " + gap, byGap[gap - 1], x.bestByAll(0));
+        }
+        x.setDemand(0, 1, 0);
+        due("18: nothing sells within the gap", 0, x.bestByAll(0));
+        x.setRules(3, 0, 0);
+        due("18: the last week sells", 150, x.bestByAll(0));
     }
 
     private static void promise19Planned() {
@@ -596,6 +624,43 @@ public final class PromisesTest {
         CHECKS.argument("19: over", () -> x.planned(0, 4));
         CHECKS.argument("19: over, last week", () -> x.planned(0, 3));
         promise19LowerOfSeveral();
+        promise19KeepsTheGap();
+    }
+
+    private static void promise19KeepsTheGap() {
+        MarkdownPlanner x = new MarkdownPlanner();
+        x.setPrice(4, 5);
+        x.begin(5);
+        demands(x, 0, 1, 0, 0, 0, 21);
+        x.put(0, 0, 30);
+        x.setRules(3, 0, 0);
+        duePlan("19: staying is no markdown", x, 0, 0, 0, 0, 4);
+        demands(x, 0, 0, 1, 0, 0, 21);
+        x.markDown(0, 1);
+        duePlan("19: free two weeks before the end", x, 1, 1, 1, 1, 4);
+        x.setDemand(0, 1, 0);
+        duePlan("19: waits until the gap has gone by", x, 1, 1, 1, 4, 4);
+        x.setDemand(0, 4, 8);
+        x.run();
+        duePlan("19: waits two weeks more", x, 1, 1, 4, 4);
+        x.setRules(1, 0, 0);
+        duePlan("19: need not wait", x, 4, 4, 4, 4);
+        promise19TwoMarkdowns();
+    }
+
+    private static void promise19TwoMarkdowns() {
+        MarkdownPlanner x = new MarkdownPlanner();
+        x.setPrice(4, 6);
+        x.setPrice(3, 50);
+        x.begin(5);
+        x.put(0, 0, 40);
+        x.put(0, 1, 20);
+        demands(x, 0, 0, 1, 0, 3, 30);
+        duePlan("19: 3 at 50 four times, 30 at 6", x, 3, 3, 3, 3, 4);
+        x.setPrice(3, 30);
+        duePlan("19: 1 at 100 three times, 57 at 6", x, 1, 1, 1, 4, 4);
+        x.setRules(4, 0, 0);
+        duePlan("19: four weeks between the two", x, 1, 1, 1, 1, 4);
     }
 
     private static void promise19LowerOfSeveral() {
