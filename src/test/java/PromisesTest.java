@@ -35,27 +35,6 @@ public final class PromisesTest {
         CHECKS.due(what, want, got);
     }
 
-    /** A planner whose steps cost 100, 80, 60, 40, 20. */
-    private static MarkdownPlanner withLadder() {
-        MarkdownPlanner x = new MarkdownPlanner();
-        for (int step = 4; step > 0; step--) {
-            x.setPrice(step, 100 - 20 * step);
-        }
-        return x;
-    }
-
-    private static void demands(MarkdownPlanner x, int store, int... pieces) {
-        for (int step = 0; step < pieces.length; step++) {
-            x.setDemand(store, step, pieces[step]);
-        }
-    }
-
-    private static void runWeeks(MarkdownPlanner x, int weeks) {
-        for (int i = 0; i < weeks; i++) {
-            x.run();
-        }
-    }
-
     private static void promise1NewObject() {
         MarkdownPlanner x = new MarkdownPlanner();
         due("1: week", 0, x.week());
@@ -81,22 +60,22 @@ public final class PromisesTest {
         due("1: moving", 0, x.move(0, 1, 0, 1));
         x.markDown(2, 1);
         due("1: gap", 2, x.weeksToWait(2));
-        runWeeks(x, 8);
+        Planners.runWeeks(x, 8);
         CHECKS.state("1: 8 weeks", x::run);
     }
 
     private static void promise2Begin() {
-        MarkdownPlanner x = withLadder();
+        MarkdownPlanner x = Planners.withLadder();
         for (int weeks : new int[] {LOW, -1, 0, 11, HIGH}) {
             CHECKS.argument("2: begin " + weeks, () -> x.begin(weeks));
         }
         x.setRules(3, 5, 7);
-        demands(x, 0, 3, 6, 9, 12, 15);
+        Planners.demands(x, 0, 3, 6, 9, 12, 15);
         x.put(0, 0, 10);
         x.put(0, 1, 10);
         x.put(0, 2, 10);
         x.markDown(0, 2);
-        runWeeks(x, 2);
+        Planners.runWeeks(x, 2);
         x.move(0, 1, 0, 1);
         CHECKS.argument("2: begin 11", () -> x.begin(11));
         due("2: week after a throw", 2, x.week());
@@ -121,7 +100,7 @@ public final class PromisesTest {
         x.run();
         CHECKS.state("2: over", x::run);
         due("2: all run", 1, x.begin(10));
-        runWeeks(x, 10);
+        Planners.runWeeks(x, 10);
         CHECKS.state("2: over after 10", x::run);
         due("2: ten run", 10, x.begin(8));
     }
@@ -149,7 +128,7 @@ public final class PromisesTest {
         due("3: in between", 100, x.setPrice(1, 500));
         due("3: not changed by throws", 500, x.setPrice(1, 500));
         due("3: last not changed", 0, x.setPrice(4, 100));
-        demands(x, 0, 3, 3, 3, 3, 3);
+        Planners.demands(x, 0, 3, 3, 3, 3, 3);
         x.put(0, 0, 9);
         due("3: sold at it", 999, x.run());
         due("3: marked down to it", 500, x.markDown(0, 1));
@@ -227,12 +206,12 @@ public final class PromisesTest {
         CHECKS.state("6: above full", () -> x.put(0, 0, 1));
         due("6: another store", 40, x.put(1, 0, 40));
         due("6: one size to the most", 60, x.put(1, 0, 20));
-        runWeeks(x, 8);
+        Planners.runWeeks(x, 8);
         due("6: when it is over", 1, x.put(2, 0, 1));
     }
 
     private static void promise7MarkDown() {
-        MarkdownPlanner x = withLadder();
+        MarkdownPlanner x = Planners.withLadder();
         for (int store : new int[] {LOW, -1, 3, HIGH}) {
             CHECKS.argument("7: store " + store, () -> x.markDown(store, 1));
         }
@@ -254,13 +233,13 @@ public final class PromisesTest {
         x.setRules(1, 0, 0);
         x.run();
         due("7: gap as it is now", 20, x.markDown(0, 4));
-        runWeeks(x, 5);
+        Planners.runWeeks(x, 5);
         CHECKS.state("7: over", () -> x.markDown(2, 1));
         due("7: step when over", 0, x.step(2));
         x.begin(3);
         due("7: first of the new season", 60, x.markDown(0, 2));
         x.setRules(4, 0, 0);
-        runWeeks(x, 2);
+        Planners.runWeeks(x, 2);
         CHECKS.state("7: longer gap now", () -> x.markDown(0, 3));
         due("7: none so far", 40, x.markDown(1, 3));
     }
@@ -293,16 +272,16 @@ public final class PromisesTest {
         due("8: just room", 3900, x.move(0, 1, 0, 39));
         due("8: a full store gives", 100, x.move(1, 2, 1, 1));
         due("8: back", 100, x.move(1, 0, 0, 1));
-        runWeeks(x, 8);
+        Planners.runWeeks(x, 8);
         CHECKS.state("8: over", () -> x.move(1, 0, 0, 1));
         due("8: stock when over", 38, x.stock(1, 0));
     }
 
     private static void promise9Run() {
-        MarkdownPlanner x = withLadder();
-        demands(x, 0, 5, 8);
-        demands(x, 1, 30);
-        demands(x, 2, 0, 0, 11);
+        MarkdownPlanner x = Planners.withLadder();
+        Planners.demands(x, 0, 5, 8);
+        Planners.demands(x, 1, 30);
+        Planners.demands(x, 2, 0, 0, 11);
         x.put(0, 0, 10);
         x.put(0, 1, 10);
         x.put(1, 0, 4);
@@ -318,14 +297,14 @@ public final class PromisesTest {
         x.markDown(0, 1);
         due("9: 16/3, none, 11/3", 400 + 180, x.run());
         due("9: taken", 1680 + 580, x.taken());
-        runWeeks(x, 6);
+        Planners.runWeeks(x, 6);
         CHECKS.state("9: over", x::run);
         due("9: week when over", 8, x.week());
     }
 
     private static void promise9PieceByPiece() {
         MarkdownPlanner x = new MarkdownPlanner();
-        demands(x, 0, 5);
+        Planners.demands(x, 0, 5);
         x.put(0, 0, 2);
         x.put(0, 1, 4);
         x.put(0, 2, 4);
@@ -339,7 +318,7 @@ public final class PromisesTest {
         due("9: size 1 then", 0, x.stock(0, 1));
         due("9: size 2 then", 0, x.stock(0, 2));
         MarkdownPlanner y = new MarkdownPlanner();
-        demands(y, 1, 2);
+        Planners.demands(y, 1, 2);
         y.put(1, 0, 1);
         y.put(1, 1, 1);
         y.put(1, 2, 1);
@@ -393,7 +372,7 @@ public final class PromisesTest {
         due("12: last", 4, x.step(0));
         due("12: first", 0, x.step(1));
         due("12: middle", 2, x.step(2));
-        runWeeks(x, 8);
+        Planners.runWeeks(x, 8);
         due("12: stays", 2, x.step(2));
     }
 
@@ -415,7 +394,7 @@ public final class PromisesTest {
         due("13: a gap of one", 0, x.weeksToWait(0));
         x.setRules(3, 0, 0);
         due("13: a gap of three", 2, x.weeksToWait(0));
-        runWeeks(x, 4);
+        Planners.runWeeks(x, 4);
         due("13: never below 0", 0, x.weeksToWait(0));
     }
 
@@ -424,22 +403,22 @@ public final class PromisesTest {
         for (int wrong : new int[] {LOW, -1, 3, HIGH}) {
             CHECKS.argument("14: store " + wrong, () -> x.sold(wrong));
         }
-        demands(x, 1, 6);
+        Planners.demands(x, 1, 6);
         x.put(1, 0, 5);
         x.run();
         due("14: two", 2, x.sold(1));
         x.move(1, 0, 0, 1);
         due("14: moving is no sale", 2, x.sold(1));
-        runWeeks(x, 2);
+        Planners.runWeeks(x, 2);
         due("14: all", 4, x.sold(1));
         due("14: another", 0, x.sold(0));
     }
 
     private static void promise15Taken() {
-        MarkdownPlanner x = withLadder();
+        MarkdownPlanner x = Planners.withLadder();
         x.setRules(2, 50, 9);
-        demands(x, 0, 30, 30);
-        demands(x, 1, 3, 3);
+        Planners.demands(x, 0, 30, 30);
+        Planners.demands(x, 1, 3, 3);
         x.put(0, 0, 20);
         x.put(1, 1, 5);
         x.move(0, 2, 0, 3);
@@ -451,7 +430,7 @@ public final class PromisesTest {
         due("15: 7 at 80 and 1 at 100", 1100 - 27 + 560 + 100, x.taken());
         x.setRules(2, 50, 0);
         due("15: cost as it was", 1733, x.taken());
-        runWeeks(x, 6);
+        Planners.runWeeks(x, 6);
         due("15: what is left is not taken", 1733 + 300, x.taken());
     }
 
@@ -463,7 +442,7 @@ public final class PromisesTest {
         for (int wrong : new int[] {LOW, -1, 5, HIGH}) {
             CHECKS.argument("16: step " + wrong, () -> x.wouldSell(0, wrong));
         }
-        demands(x, 0, 1, 4, 5, 10, 30);
+        Planners.demands(x, 0, 1, 4, 5, 10, 30);
         due("16: no stock", 0, x.wouldSell(0, 4));
         x.put(0, 1, 15);
         int[] oneSize = {0, 1, 1, 3, 10};
@@ -490,7 +469,7 @@ public final class PromisesTest {
     }
 
     private static void promise17Best() {
-        MarkdownPlanner x = withLadder();
+        MarkdownPlanner x = Planners.withLadder();
         for (int wrong : new int[] {LOW, -1, 3, HIGH}) {
             CHECKS.argument("17: store " + wrong, () -> x.best(wrong));
         }
@@ -501,7 +480,7 @@ public final class PromisesTest {
         due("17: all 60 are left", 180, x.best(1));
         x.setRules(2, 0, 0);
         x.begin(2);
-        demands(x, 0, 1, 2, 4, 7, 30);
+        Planners.demands(x, 0, 1, 2, 4, 7, 30);
         x.put(0, 0, 10);
         // One size only, but the plan sells as if none was lacking: 4 at 60 and 4 at 60 (or 7 at 40 and 3 at 40 ..).
         due("17: two weeks", 480, x.best(0));
@@ -514,7 +493,7 @@ public final class PromisesTest {
         x.setRules(1, 30, 0);
         x.markDown(0, 3);
         due("17: not below its own: 7 at 40, 3 at 40", 400, x.best(0));
-        runWeeks(x, 2);
+        Planners.runWeeks(x, 2);
         due("17: over, 6 at the remnant price", 180, x.best(0));
         x.setRules(1, 0, 0);
         due("17: over, no remnant price", 0, x.best(0));
@@ -525,7 +504,7 @@ public final class PromisesTest {
         x.setPrice(4, 5);
         x.setPrice(3, 10);
         x.begin(4);
-        demands(x, 0, 0, 1, 0, 5, 30);
+        Planners.demands(x, 0, 0, 1, 0, 5, 30);
         x.put(0, 0, 30);
         x.setRules(1, 0, 0);
         due("17: 1 at 100 three times, 27 at 5", 435, x.best(0));
@@ -544,12 +523,12 @@ public final class PromisesTest {
     }
 
     private static void promise18BestByAll() {
-        MarkdownPlanner x = withLadder();
+        MarkdownPlanner x = Planners.withLadder();
         for (int wrong : new int[] {LOW, -1, 3, HIGH}) {
             CHECKS.argument("18: store " + wrong, () -> x.bestByAll(wrong));
         }
         CHECKS.state("18: 8 weeks are left", () -> x.bestByAll(0));
-        demands(x, 0, 1, 2, 4, 7, 30);
+        Planners.demands(x, 0, 1, 2, 4, 7, 30);
         x.put(0, 0, 40);
         x.put(0, 1, 20);
         x.run();
@@ -571,7 +550,7 @@ public final class PromisesTest {
         x.markDown(0, 4);
         due("18: nothing sells at its own step", 300, x.bestByAll(0));
         promise18KeepsTheGap();
-        runWeeks(x, 2);
+        Planners.runWeeks(x, 2);
         x.setRules(2, 9, 0);
         due("18: over, 60 at 9", 540, x.bestByAll(0));
     }
@@ -580,7 +559,7 @@ public final class PromisesTest {
         MarkdownPlanner x = new MarkdownPlanner();
         x.setPrice(4, 5);
         x.begin(4);
-        demands(x, 0, 0, 1, 0, 0, 30);
+        Planners.demands(x, 0, 0, 1, 0, 0, 30);
         x.put(0, 0, 30);
         int[] byGap = {435, 435, 435, 400};
         for (int gap = 1; gap <= 4; gap++) {
@@ -609,7 +588,7 @@ public final class PromisesTest {
         }
         x.setPrice(4, 5);
         x.setPrice(3, 10);
-        demands(x, 0, 0, 1, 0, 5, 30);
+        Planners.demands(x, 0, 0, 1, 0, 5, 30);
         x.put(0, 0, 30);
         x.setRules(1, 0, 0);
         duePlan("19: gap 1", x, 1, 1, 1, 4);
@@ -620,7 +599,7 @@ public final class PromisesTest {
         x.run();
         CHECKS.argument("19: a week that is run", () -> x.planned(0, 0));
         duePlan("19: from the present week", x, 1, 1, 1);
-        runWeeks(x, 3);
+        Planners.runWeeks(x, 3);
         CHECKS.argument("19: over", () -> x.planned(0, 4));
         CHECKS.argument("19: over, last week", () -> x.planned(0, 3));
         promise19LowerOfSeveral();
@@ -631,11 +610,11 @@ public final class PromisesTest {
         MarkdownPlanner x = new MarkdownPlanner();
         x.setPrice(4, 5);
         x.begin(5);
-        demands(x, 0, 1, 0, 0, 0, 21);
+        Planners.demands(x, 0, 1, 0, 0, 0, 21);
         x.put(0, 0, 30);
         x.setRules(3, 0, 0);
         duePlan("19: staying is no markdown", x, 0, 0, 0, 0, 4);
-        demands(x, 0, 0, 1, 0, 0, 21);
+        Planners.demands(x, 0, 0, 1, 0, 0, 21);
         x.markDown(0, 1);
         duePlan("19: free two weeks before the end", x, 1, 1, 1, 1, 4);
         x.setDemand(0, 1, 0);
@@ -655,7 +634,7 @@ public final class PromisesTest {
         x.begin(5);
         x.put(0, 0, 40);
         x.put(0, 1, 20);
-        demands(x, 0, 0, 1, 0, 3, 30);
+        Planners.demands(x, 0, 0, 1, 0, 3, 30);
         duePlan("19: 3 at 50 four times, 30 at 6", x, 3, 3, 3, 3, 4);
         x.setPrice(3, 30);
         duePlan("19: 1 at 100 three times, 57 at 6", x, 1, 1, 1, 4, 4);
@@ -668,18 +647,18 @@ public final class PromisesTest {
         x.begin(3);
         x.put(0, 0, 6);
         duePlan("19: none sells", x, 0, 0, 0);
-        demands(x, 0, 2, 2, 2, 2, 2);
+        Planners.demands(x, 0, 2, 2, 2, 2, 2);
         duePlan("19: all sell the same", x, 0, 0, 0);
-        demands(x, 0, 2, 3, 6, 6, 6);
+        Planners.demands(x, 0, 2, 3, 6, 6, 6);
         duePlan("19: the first is enough", x, 0, 0, 0);
-        demands(x, 0, 1, 3, 6, 6, 6);
+        Planners.demands(x, 0, 1, 3, 6, 6, 6);
         duePlan("19: the higher step comes late", x, 0, 0, 2);
         x.setRules(1, 100, 0);
         duePlan("19: the remnant price is as good", x, 0, 0, 0);
         x.markDown(0, 1);
         duePlan("19: its own step", x, 1, 1, 1);
         x.setRules(1, 0, 0);
-        demands(x, 0, 1, 0, 1, 2, 6);
+        Planners.demands(x, 0, 1, 0, 1, 2, 6);
         duePlan("19: waits in its own step", x, 1, 1, 4);
     }
 
@@ -691,7 +670,7 @@ public final class PromisesTest {
     }
 
     private static void promise20BestLeaving() {
-        MarkdownPlanner x = withLadder();
+        MarkdownPlanner x = Planners.withLadder();
         for (int wrong : new int[] {LOW, -1, 3, HIGH}) {
             CHECKS.argument("20: store " + wrong, () -> x.bestLeaving(wrong, 0));
         }
@@ -700,7 +679,7 @@ public final class PromisesTest {
         }
         due("20: no stock leaves none", 0, x.bestLeaving(0, 0));
         x.begin(2);
-        demands(x, 0, 1, 2, 4, 7, 9);
+        Planners.demands(x, 0, 1, 2, 4, 7, 9);
         x.put(0, 0, 20);
         due("20: 14 at 40", 560, x.bestLeaving(0, 60));
         due("20: 14 at 40 leave 6", 560, x.bestLeaving(0, 6));
@@ -720,7 +699,7 @@ public final class PromisesTest {
         x.setDemand(0, 4, 0);
         due("20: all is left", 4000, x.bestLeaving(0, 20));
         due("20: less is not to be had", -1, x.bestLeaving(0, 19));
-        runWeeks(x, 2);
+        Planners.runWeeks(x, 2);
         due("20: over", 4000, x.bestLeaving(0, 20));
         due("20: over, too many are left", -1, x.bestLeaving(0, 19));
         x.setRules(1, 0, 0);
@@ -736,7 +715,7 @@ public final class PromisesTest {
         CHECKS.argument("put: both", () -> x.put(0, 3, 40));
         CHECKS.argument("put: both", () -> x.put(0, 0, 41));
         CHECKS.argument("bestByAll: both", () -> x.bestByAll(3));
-        runWeeks(x, 8);
+        Planners.runWeeks(x, 8);
         CHECKS.argument("markDown: both", () -> x.markDown(0, 5));
         CHECKS.argument("markDown: both", () -> x.markDown(3, 1));
         CHECKS.argument("move: both", () -> x.move(0, 0, 0, 1));
