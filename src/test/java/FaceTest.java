@@ -1,17 +1,25 @@
+import java.io.IOException;
 import java.lang.reflect.Constructor;
 import java.lang.reflect.Field;
 import java.lang.reflect.Method;
 import java.lang.reflect.Modifier;
+import java.nio.file.Files;
+import java.nio.file.Path;
 import java.util.ArrayList;
 import java.util.List;
 import java.util.TreeSet;
+import java.util.regex.Matcher;
+import java.util.regex.Pattern;
 
-/** The public face: the names, parameters, answers and throws clauses of the document, and no other member in sight. */
+/**
+ * The public face: the names, parameters, answers and throws clauses of the document, and no other member in sight; in
+ * the source, the order of the calls and what the interface says ahead of them.
+ */
 public final class FaceTest {
     private static final String A = " IllegalArgumentException";
     private static final String S = " IllegalStateException";
 
-    public static void main(String[] args) {
+    public static void main(String[] args) throws IOException {
         Checks checks = new Checks("FaceTest");
         checks.due("modifiers", Modifier.PUBLIC | Modifier.FINAL, MarkdownPlanner.class.getModifiers());
         checks.due("package", "", MarkdownPlanner.class.getPackageName());
@@ -39,7 +47,37 @@ public final class FaceTest {
         want.add("int bestLeaving(int int)" + A);
         checks.due("face", want.toString(), faceOf(MarkdownPlanner.class).toString());
         checks.due("rules 1 and 5 of LANGUAGE.md", "[]", outsideTheLanguage().toString());
+        asTheDocumentWritesIt(checks);
         checks.end();
+    }
+
+    /** The interface as the document writes it, line by line, with what it says ahead of its calls. */
+    private static void asTheDocumentWritesIt(Checks checks) throws IOException {
+        String document = Files.readString(Path.of("../shared/DOC.md"));
+        String source = Source.text();
+        int before = 0;
+        int lines = 0;
+        for (String line : document.split("```")[1].split("\n")) {
+            if (line.startsWith("public ") || line.startsWith("    public ")) {
+                int at = source.indexOf("\n" + line.replace(";", " {") + "\n");
+                checks.due(line + " in its place", 1, at > before ? 1 : 0);
+                if (line.contains("(")) {
+                    saidAhead(checks, document, source, line, at);
+                }
+                before = at;
+                lines++;
+            }
+        }
+        checks.due("the class, its constructor and its calls", 2 + Calls.NAMES.length, lines);
+    }
+
+    /** "Ahead of the calls .. the interface says: ---- setting up.", and so on. */
+    private static void saidAhead(Checks checks, String document, String source, String line, int at) {
+        String name = line.replaceFirst("\\(.*", "").replaceFirst(".* ", "");
+        Matcher told = Pattern.compile("Ahead of the calls [^.]*`" + name + "`[^.]*: (---- .*)\\.").matcher(document);
+        String want = told.find() ? "// " + told.group(1) : "";
+        int said = at < 0 ? -1 : source.lastIndexOf("// ---- ", at);
+        checks.due("ahead of " + name, want, said < 0 ? "" : source.substring(said, source.indexOf('\n', said)));
     }
 
     /** Private methods with a public one's name, classes inside that are not static, and static state. */

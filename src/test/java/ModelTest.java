@@ -19,6 +19,7 @@ public final class ModelTest {
         for (int run = 0; run < RUNS; run++) {
             oneRun(run);
         }
+        sideBySide();
         for (int i = 0; i < NAMES.length; i++) {
             boolean neverThrows = NAMES[i].equals("week") || NAMES[i].equals("taken");
             CHECKS.due(NAMES[i] + " was answered", 1, ANSWERED[i] > 0 ? 1 : 0);
@@ -50,20 +51,45 @@ public final class ModelTest {
     private static void oneRun(int run) {
         MarkdownPlanner x = new MarkdownPlanner();
         Model model = new Model();
-        int often = 0;
-        for (int weight : OFTEN) {
-            often += weight;
-        }
         // Small demands and prices make many plans of the same worth, so some runs keep to them.
         int[] most = {below(2) == 0 ? 30 : 1 + below(6), below(2) == 0 ? 1000 : 1 + below(8), 1 + below(40)};
         int madeAhead = below(4) == 0 ? 0 : ladderMadeAhead(run, x, model);
         for (int call = madeAhead; call < CALLS; call++) {
-            int at = 0;
-            for (int luck = below(often); luck >= OFTEN[at]; at++) {
-                luck -= OFTEN[at];
-            }
+            int at = anyCall();
             oneCall(run, call, at, x, model, argumentsOf(NAMES[at], model, most));
         }
+    }
+
+    /** Planners that are used in turn have nothing in common. */
+    private static void sideBySide() {
+        MarkdownPlanner[] planners = new MarkdownPlanner[3];
+        Model[] models = new Model[3];
+        int madeAhead = 0;
+        for (int i = 0; i < 3; i++) {
+            planners[i] = new MarkdownPlanner();
+            models[i] = new Model();
+            madeAhead = ladderMadeAhead(RUNS + i, planners[i], models[i]);
+        }
+        int[] most = {12, 200, 20};
+        for (int call = madeAhead; call < CALLS; call++) {
+            for (int i = 0; i < 3; i++) {
+                int at = anyCall();
+                oneCall(RUNS + i, call, at, planners[i], models[i], argumentsOf(NAMES[at], models[i], most));
+            }
+        }
+    }
+
+    /** The place of a call's name, each as often as its weight tells. */
+    private static int anyCall() {
+        int often = 0;
+        for (int weight : OFTEN) {
+            often += weight;
+        }
+        int at = 0;
+        for (int luck = below(often); luck >= OFTEN[at]; at++) {
+            luck -= OFTEN[at];
+        }
+        return at;
     }
 
     /** Sets up prices that go down and demands that go up, so that plans have many steps; returns how many calls. */
